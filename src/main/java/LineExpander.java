@@ -424,7 +424,7 @@ public final class LineExpander {
 
         /** The byte that joins the parameters by @ or *, or NONE. */
         int joint(int key) {
-            int i = key == '@' ? NONE : findIfs();
+            int i = key == '@' ? NONE : variables.find(IFS, 0, IFS.length);
             if (i < 0) {
                 return 32;
             }
@@ -1051,7 +1051,9 @@ public final class LineExpander {
         private final int[] name = new int[LONGEST_NAME];
         private int nameSize;
         private final int[] flat = new int[LONGEST_VALUE];
-        private final boolean[] parting = new boolean[128];
+        /** The bytes of IFS below 64, and those from 64 on. */
+        private long partingLow;
+        private long partingHigh;
         final int[] message = new int[LONGEST_VALUE];
         int messageSize = NONE;
 
@@ -1158,7 +1160,8 @@ public final class LineExpander {
                         openRow(LONGEST_VALUE);
                         break;
                     default:
-                        closeReach(script.links[i]);
+                        error = reckoner.reckon(closeRow());
+                        addNumber(reckoner.result, script.hows[script.links[i]] & QUOTED);
                         break;
                 }
             }
@@ -1171,8 +1174,11 @@ public final class LineExpander {
         }
 
         private void addBytes(int[] from, int at, int size, int flag) {
+            Row row = rows[level];
             for (int i = 0; i < size && error == 0; i++) {
-                add(from[at + i] | flag);
+                if (!row.add(from[at + i] | flag)) {
+                    error = TOO_MUCH;
+                }
             }
         }
 
@@ -1368,14 +1374,6 @@ public final class LineExpander {
             }
         }
 
-        private void closeReach(int first) {
-            int size = closeRow().flatten(reckoner.text);
-            error = reckoner.reckon(size);
-            if (error == 0) {
-                addNumber(reckoner.result, script.hows[first] & QUOTED);
-            }
-        }
-
         private void openRow(int limit) {
             if (level + 1 < rows.length) {
                 level++;
@@ -1417,21 +1415,23 @@ public final class LineExpander {
 
         private void readIfs() {
             int ifs = store.findIfs();
-            for (int b = 0; b < parting.length; b++) {
-                parting[b] = ifs < 0 && isBlank(b);
-            }
+            partingLow = ifs < 0 ? 1L << 9 | 1L << 10 | 1L << 32 : 0;
+            partingHigh = 0;
             int size = ifs < 0 ? 0 : store.variables.textSizes[ifs];
             for (int k = 0; k < size; k++) {
-                parting[store.variables.texts[store.variables.textAt(ifs) + k] & 127] = true;
+                int b = store.variables.texts[store.variables.textAt(ifs) + k];
+                partingLow |= b < 64 ? 1L << b : 0;
+                partingHigh |= b < 64 ? 0 : 1L << b - 64;
             }
         }
 
         private int seam(Row row, int i) {
-            if (i >= row.size || row.cells[i] != BREAK && row.cells[i] >= QUOTED) {
-                return CONTENT;
+            int cell = i < row.size ? row.cells[i] : QUOTED;
+            if (cell >= QUOTED) {
+                return cell == BREAK ? BROKEN : CONTENT;
             }
-            int b = row.cells[i];
-            return b == BREAK ? BROKEN : !parting[b & 127] ? CONTENT : isBlank(b) ? WHITE : HARD;
+            boolean parts = ((cell < 64 ? partingLow >>> cell : partingHigh >>> cell - 64) & 1) != 0;
+            return !parts ? CONTENT : isBlank(cell) ? WHITE : HARD;
         }
 
         private int behindWhite(Row row, int from) {
@@ -1458,17 +1458,28 @@ public final class LineExpander {
         private final boolean[] reached = new boolean[LONGEST_VALUE + 1];
 
         void compile(int[] source, int from, int to) {
-            size = 0;
+            copyBytes(source, from, to);
             parts = 0;
+            int next = 0;
+            for (int i = 0; i < size; i = next) {
+                int end = isSign(i, '[') ? setEnd(i + 1) : NONE;
+                bytes[parts] = cells[i] & 255;
+                kinds[parts] = isSign(i, '*') ? MANY : isSign(i, '?') ? ANY : end > i ? SET : ONE;
+                if (end > i) {
+                    readSet(i + 1, end);
+                }
+                parts++;
+                next = Math.max(i, end) + 1;
+            }
+        }
+
+        private void copyBytes(int[] source, int from, int to) {
+            size = 0;
             for (int i = from; i < to && size < LONGEST_WORD; i++) {
                 if (source[i] < QUOTES_STOOD) {
                     cells[size] = source[i];
                     size++;
                 }
-            }
-            int next = 0;
-            for (int i = 0; i < size; i = Math.max(i + 1, next)) {
-                next = readPart(i);
             }
         }
 
@@ -1554,19 +1565,6 @@ public final class LineExpander {
                 case SET: return ((b < 64 ? lows[part] >>> b : highs[part] >>> b - 64) & 1) != 0;
                 default: return true;
             }
-        }
-
-        /** Reads one part: the cell behind it. */
-        private int readPart(int i) {
-            int b = cells[i] & 255;
-            int end = isSign(i, '[') ? setEnd(i + 1) : NONE;
-            bytes[parts] = b;
-            kinds[parts] = isSign(i, '*') ? MANY : isSign(i, '?') ? ANY : end >= 0 ? SET : ONE;
-            if (end >= 0) {
-                readSet(i + 1, end);
-            }
-            parts++;
-            return end >= 0 ? end + 1 : i + 1;
         }
 
         /** The ] that ends a set, or NONE: one right at its beginning is a byte like others. */
@@ -1691,19 +1689,17 @@ public final class LineExpander {
         private void match() {
             for (int p = 0; p < parts; p++) {
                 empty(matching, p);
-                if (kinds[p] == NAMES) {
-                    matchPart(p, (cells[starts[p]] & 255) == '.');
+                boolean names = kinds[p] == NAMES;
+                boolean dot = names && (cells[starts[p]] & 255) == '.';
+                if (names) {
+                    pattern.compile(cells, starts[p], ends[p]);
                 }
-            }
-        }
-
-        private void matchPart(int p, boolean dot) {
-            pattern.compile(cells, starts[p], ends[p]);
-            for (int node = 1; node < Tree.MOST; node++) {
-                int name = node * Tree.LONGEST;
-                if (tree.kinds[node] != Tree.FREE && (dot || tree.names[name] != '.')
-                        && pattern.matches(tree.names, name, tree.nameSizes[node])) {
-                    put(matching, p, node);
+                for (int node = 1; node < Tree.MOST && names; node++) {
+                    int name = node * Tree.LONGEST;
+                    if (tree.kinds[node] != Tree.FREE && (dot || tree.names[name] != '.')
+                            && pattern.matches(tree.names, name, tree.nameSizes[node])) {
+                        put(matching, p, node);
+                    }
                 }
             }
         }
@@ -1811,7 +1807,7 @@ public final class LineExpander {
         static final int ROOM = 2 * LONGEST_VALUE + 10;
 
         private final Store store;
-        final int[] text = new int[LONGEST_VALUE];
+        private final int[] text = new int[LONGEST_VALUE];
         private int size;
         private int at;
         private final int[] codes = new int[ROOM];
@@ -1833,8 +1829,8 @@ public final class LineExpander {
         }
 
         /** 0 with the result, or the ERROR. */
-        int reckon(int textSize) {
-            size = Math.min(textSize, LONGEST_VALUE);
+        int reckon(Row row) {
+            size = row.flatten(text);
             at = 0;
             made = 0;
             open = 0;
@@ -1846,7 +1842,7 @@ public final class LineExpander {
             if (at >= size) {
                 return 0;
             }
-            for (int steps = 0; steps < textSize && at < size && !wrong; steps++) {
+            for (int steps = 0; steps < size && at < size && !wrong; steps++) {
                 if (operandDue) {
                     readOperand(text[at]);
                 } else {
@@ -1936,24 +1932,24 @@ public final class LineExpander {
                 mayGive = true;
                 operandDue = true;
             } else if (sign == ':') {
-                choose();
+                popDownTo(GIVES);
+                wrong |= top() != '?';
+                int jump = emit(JUMP, 0);
+                turnToChoice(jump);
+                mayGive = false;
+                operandDue = true;
             } else {
                 wrong = true;
             }
         }
 
-        private void choose() {
-            popDownTo(GIVES);
-            if (top() != '?') {
-                wrong = true;
-                return;
+        /** The ? at hand has its : now; what is made from here on is for when the first one is not needed. */
+        private void turnToChoice(int jump) {
+            if (!wrong) {
+                data[signData[open - 1]] = made;
+                signs[open - 1] = ':';
+                signData[open - 1] = jump;
             }
-            int unless = signData[open - 1];
-            signData[open - 1] = emit(JUMP, 0);
-            signs[open - 1] = ':';
-            data[unless] = made;
-            mayGive = false;
-            operandDue = true;
         }
 
         /** The sign at hand, as long as can be; 0, if there is none. */
