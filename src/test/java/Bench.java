@@ -128,7 +128,9 @@ final class Bench {
         asked++;
         if (!got.equals(due)) {
             wrong++;
-            System.out.println(what + " answered " + got + ", due is " + due);
+            if (wrong <= 40) {
+                System.out.println(what + " answered " + got + ", due is " + due);
+            }
         }
     }
 
