@@ -1390,26 +1390,25 @@ public final class LineExpander {
         }
 
         private void part(Row row) {
-            if (error == 0) {
-                readIfs();
-                paths.clear();
+            if (error != 0) {
+                return;
             }
-            int i = 0;
-            while (i < row.size && error == 0) {
-                if (seam(row, i) == CONTENT) {
+            readIfs();
+            paths.clear();
+            int next = 0;
+            for (int i = 0; i < row.size && error == 0; i = Math.max(i + 1, next)) {
+                int kind = seam(row, i);
+                if (kind == CONTENT) {
                     paths.add(row.cells[i]);
-                    i++;
-                    continue;
-                }
-                int middle = behindWhite(row, i);
-                int kind = seam(row, middle);
-                i = kind == HARD || kind == BROKEN ? behindWhite(row, middle + 1) : Math.max(middle, i + 1);
-                if (!paths.take(kind == HARD)) {
-                    error = TOO_MUCH;
+                } else {
+                    next = behindWhite(row, i);
+                    kind = seam(row, next);
+                    next = kind == HARD || kind == BROKEN ? behindWhite(row, next + 1) : next;
+                    error = paths.take(kind == HARD);
                 }
             }
-            if (error == 0 && !paths.take(false)) {
-                error = TOO_MUCH;
+            if (error == 0) {
+                error = paths.take(false);
             }
         }
 
@@ -1651,8 +1650,8 @@ public final class LineExpander {
             }
         }
 
-        /** Ends the field that was added: false, if there are too many then. */
-        boolean take(boolean endedByByte) {
+        /** Ends the field that was added: 0, or the ERROR. */
+        int take(boolean endedByByte) {
             int first = fields.used;
             boolean fine = true;
             if (signs) {
@@ -1666,7 +1665,7 @@ public final class LineExpander {
                 fine = fields.addText(cells, 0, size);
             }
             clear();
-            return fine;
+            return fine ? 0 : TOO_MUCH;
         }
 
         private void split() {

@@ -80,6 +80,8 @@ public final class LanguageTest {
             Bench.same(each + " has twenty fields at most", fields <= 20, true);
             for (Method method : each.getDeclaredMethods()) {
                 Bench.same(method + " takes seven at most", method.getParameterCount() <= 7, true);
+                boolean borrowed = each != LineExpander.class && FACE.toString().matches(".*\\b" + method.getName() + "\\(.*");
+                Bench.same(method + " bears a name of the face", borrowed, false);
             }
         }
     }
