@@ -24,7 +24,7 @@ public final class PartingTest {
         b.gives("x${d}y", "[x][y]").gives("$e", "[ x ][ y ]").gives("$d''", "[][]").gives("''$d", "[]");
         b.gives("IFS=:x' ' a='1:2x3 4'", "").gives("$a", "[1][2][3][4]");
         b.gives("IFS= a=' x  y '", "").gives("$a", "[ x  y ]").gives("IFS='\t' a='\t1\t\t2 3\t'", "").gives("$a", "[1][2 3]");
-        b.gives("IFS='~' a='1~2'", "").gives("$a", "[1][2]");
+        b.gives("IFS='~' a='1~2'", "").gives("$a", "[1][2]").gives("IFS=?@ a='1?2@3A4>5'", "").gives("$a", "[1][2][3A4>5]");
     }
 
     private static void breaks() {
