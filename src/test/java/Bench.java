@@ -1,5 +1,7 @@
 import java.util.ArrayList;
 import java.util.List;
+import java.util.function.Supplier;
+import java.util.function.ToIntFunction;
 
 /** An object under test with what makes its calls short to write, and the count of wrong answers. */
 final class Bench {
@@ -27,6 +29,11 @@ final class Bench {
         return this;
     }
 
+    Bench ends(int n, int due) {
+        same("end(" + n + ")", x.end(n), due);
+        return this;
+    }
+
     int line(String text) {
         return type(text).x.line();
     }
@@ -40,6 +47,12 @@ final class Bench {
         for (String value : values) {
             same("parameter " + value, type(value).x.parameter() > 0, true);
         }
+        return this;
+    }
+
+    /** Gives a variable a value without an apostrophe. */
+    Bench set(String name, String value) {
+        same("setting " + name, line(name + "='" + value + "'"), 0);
         return this;
     }
 
@@ -71,6 +84,44 @@ final class Bench {
             all.append((char) x.message(k));
         }
         return all.toString();
+    }
+
+    /** All that calls tell without changing anything. */
+    String face() {
+        StringBuilder all = new StringBuilder();
+        for (int what = 0; what < 7; what++) {
+            all.append(x.count(what)).append(' ');
+        }
+        return all.append(fields()).append(x.place()).append(' ').append(x.message(-1)).append(message()).toString();
+    }
+
+    /** All that can be found out; what is collected is taken as a line for it, and much is changed. */
+    String whole() {
+        StringBuilder all = new StringBuilder(face());
+        all.append(" collected ").append(x.line()).append(fields()).append(" strict ").append(x.strict(false));
+        for (String name : new String[] {"a", "b", "c", "n", "L", "HOME", "IFS", "longname"}) {
+            int answer = value(name);
+            all.append(' ').append(name).append(answer).append(answer < 0 ? "" : fields());
+        }
+        for (int i = 1; i <= x.count(2); i++) {
+            all.append(" $").append(i).append(line("\"${" + i + "}\"")).append(fields());
+        }
+        for (String path : new String[] {"~u", "~v", "~w", "~longname", "*", "*/", "../*", "/*", "/.*", "/*/*", "/*/*/", "/*/.*", "/*/*/*"}) {
+            all.append(' ').append(path).append(line(path)).append(fields());
+        }
+        for (String name : new String[] {"a", "b", "n", "L", "longname"}) {
+            all.append(" lock ").append(name).append(type(name).x.mark(1));
+        }
+        return all.toString();
+    }
+
+    /** A call that must answer BAD, and must leave all as it is on a twin without that call. */
+    static void refused(String what, Supplier<Bench> made, ToIntFunction<Bench> call) {
+        Bench one = made.get();
+        String before = one.face();
+        same(what, call.applyAsInt(one), LineExpander.BAD);
+        same("at once behind " + what, one.face(), before);
+        same("all behind " + what, one.whole(), made.get().whole());
     }
 
     /** A line must give these fields, each in [ ]. */
@@ -129,9 +180,13 @@ final class Bench {
         if (!got.equals(due)) {
             wrong++;
             if (wrong <= 40) {
-                System.out.println(what + " answered " + got + ", due is " + due);
+                System.out.println(brief(what) + " answered " + brief(got.toString()) + ", due is " + brief(due.toString()));
             }
         }
+    }
+
+    private static String brief(String text) {
+        return text.length() <= 600 ? text : text.substring(0, 300) + " .. " + text.substring(text.length() - 300);
     }
 
     static void close() {
