@@ -131,6 +131,8 @@ public final class EmptyCasesTest {
         Bench b = new Bench().tree("/d/", "/d/a", "/d/e/", "/d/e/a", "/f");
         b.gives("/*", "[/d][/f]").gives("//*", "[//d][//f]").gives("///*//", "[///d//]").gives("*/", "[d/]").gives("*//", "[d//]").gives("f*/", "[f*/]").gives("d*//a d//*", "[d//a][d//a][d//e]");
         b.gives("*/*/", "[d/e/]").gives("*//*//*", "[d//e//a]").gives("d/a*/ d/a*//", "[d/a*/][d/a*//]").gives("'/'*'/'", "[/d/]").gives("*//..//f", "[d//..//f]");
+        String slashes = Bench.times("/", 300);
+        b.set("s", slashes).gives("$s${s%/}*", "[" + slashes + slashes.substring(1) + "d][" + slashes + slashes.substring(1) + "f]");
         b.type("/d").x.go();
         b.gives("* */ ./*/ //*/", "[a][e][e/][./e/][//d/]");
         b.type("/d/e/a").x.drop();

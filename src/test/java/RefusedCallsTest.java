@@ -91,6 +91,7 @@ public final class RefusedCallsTest {
     private static void line() {
         for (int bad : new int[] {0, 1, 8, 11, 12, 13, 31, 127, 128, 160, 255}) {
             refused("a line with the byte " + bad, b -> b.line("a=9 " + (char) bad));
+            refused("a line that begins with the byte " + bad, b -> b.line((char) bad + " a=9"));
             refused("a line with the byte " + bad + " in quotes", b -> b.line("a=9 '" + (char) bad + "'"));
             refused("a faulty line with the byte " + bad, b -> b.line("'" + (char) bad));
         }
@@ -176,6 +177,7 @@ public final class RefusedCallsTest {
     private static void parameter() {
         for (int bad : new int[] {0, 8, 11, 31, 127, 255}) {
             refused("a parameter with the byte " + bad, b -> b.type("x" + (char) bad).x.parameter());
+            refused("a parameter that begins with the byte " + bad, b -> b.type((char) bad + "x").x.parameter());
         }
         refused("a parameter of 301", b -> b.type(Bench.times("x", 301)).x.parameter());
         refused("a parameter of 520", b -> b.type(Bench.times("x", 520)).x.parameter());
@@ -259,6 +261,7 @@ public final class RefusedCallsTest {
         }
         for (int bad : new int[] {0, 8, 11, 31, 127, 255}) {
             refused("a path with the byte " + bad, b -> b.type("u=/x" + (char) bad).x.user());
+            refused("a path that begins with the byte " + bad, b -> b.type("u=" + (char) bad + "x").x.user());
         }
         refused("a path of 101", b -> b.type("u=" + Bench.times("p", 101)).x.user());
         refused("a path of 101 for a longer NAME", b -> b.type("longname=" + Bench.times("p", 101)).x.user());
@@ -282,8 +285,8 @@ public final class RefusedCallsTest {
         return b;
     }
 
-    private static final String[] NO_PATHS = {"", "g", "d/g", "//", "//g", "/d//g", "/g/", "/d/g/", "/.", "/..", "/./g", "/../g", "/d/.", "/d/..",
-        "/12345678901", "/d/12345678901", "/12345678901/g", "/g\1", "/g\0", "/\13", "/\37", "/\177", "/\377", " /g"};
+    private static final String[] NO_PATHS = {"", "g", "gg", "xd", "xd/e", "xf", "d/g", "//", "//g", "/d//g", "/g/", "/d/g/", "/.", "/..", "/./g", "/../g", "/d/.", "/d/..",
+        "/12345678901", "/d/12345678901", "/12345678901/g", "/\1g", "/g\1", "/d/\1g", "/g\0", "/\13", "/\37", "/\177", "/\377", " /g"};
 
     private static void make() {
         for (int kind : new int[] {0, 1}) {

@@ -12,6 +12,7 @@ public final class SeamsTest {
 
     public static void main(String[] args) {
         values();
+        pairs();
         parameters();
         namedOnes();
         whiteOnes();
@@ -80,6 +81,19 @@ public final class SeamsTest {
         b.gives("${n-$v}", due(v, k)).gives("${n-x$v}", due("x" + v, kinds("x", ifs) + k)).gives("\"$v\"", "[" + v + "]");
     }
 
+    /** One word behind the other: each is parted alone. */
+    private static void pairs() {
+        for (int i = 0; i < 27; i++) {
+            for (int k = 0; k < 27; k++) {
+                for (int size = 1; size <= 3; size++) {
+                    String v = text(i, 3);
+                    String w = text(k, size);
+                    new Bench().set("v", v).set("w", w).set("IFS", " ,").gives("$v $w", due(v, kinds(v, " ,")) + due(w, kinds(w, " ,")));
+                }
+            }
+        }
+    }
+
     private static void parameters() {
         for (int i = 0; i < 27; i++) {
             for (int k = 0; k < 27; k++) {
@@ -129,7 +143,7 @@ public final class SeamsTest {
     /** "by the LOOSE bytes": not by those of the line itself, nor by quoted ones. */
     private static void whatIsLoose() {
         Bench b = new Bench().set("v", "1-2").set("HOME", "3-4").set("IFS", "-3");
-        b.gives("a-b \"$v\" '-' \\- ~", "[a-b][1-2][-][-][3-4]").gives("$v a-$v", "[1][2][a-1][2]").gives("$((13-6-20)) \"$((0-3))\"", "[][1][-3]").gives("${#v} $((3))x", "[][][x]");
+        b.gives("a-b \"$v\" '-' \\- ~", "[a-b][1-2][-][-][3-4]").gives("$v a-$v", "[1][2][a-1][2]").gives("$((13-6-20)) \"$((0-3))\"", "[][1][-3]").gives("${#v} $((3))x \"${#v}\" \"$((3))\"", "[][][x][3][3]");
         b.gives("${n-a-b} ${n-a\"-\"b} ${n-'-'} ${n-\\-} \"${n-a-b}\"", "[a][b][a-b][-][-][a-b]").gives("${v#1} ${v%2}x ${v+c-d} ${m=e-f} $m", "[][2][1][x][c][d][e][f][e][f]").gives("${k='g-'h-i} $k", "[g-h][i][g][h][i]");
         b.gives("a=$v b=${n-x-y} c=~", "").has("a", "1-2").has("b", "x-y").has("c", "3-4");
     }

@@ -183,9 +183,20 @@ public final class WrappingTest {
                 is(b, "1" + sign + "(v=2)", two(sign, 1, 2));
                 is(b, "1?v=3:4", 3);
                 b.has("v", "3");
+                boolean yes = two(sign, 6, 4) != 0;
+                is(b, "6" + sign + "4?v=5:7", yes ? 5 : 7);
+                b.has("v", yes ? "5" : "3");
             }
         }
         Bench b = new Bench();
+        for (String[] each : new String[][] {{"1&&1", "1"}, {"1&&0", "0"}, {"0&&1", "0"}, {"0||1", "1"}, {"0||0", "0"}, {"1||0", "1"}, {"1?4:5", "4"}, {"0?4:5", "5"},
+            {"1&&1&&1", "1"}, {"0||0||1", "1"}, {"1?1?6:7:8", "6"}, {"0?1:0?2:9", "9"}, {"c=1&&2", "1"}, {"c=0?1:7", "7"}}) {
+            long value = Long.parseLong(each[1]);
+            is(b, "30+(" + each[0] + ")", 30 + value);
+            is(b, "30-(" + each[0] + ")*(" + each[0] + ")", 30 - value * value);
+            is(b, "(" + each[0] + ")*10+(" + each[0] + ")", 11 * value);
+            is(b, "-(" + each[0] + ")<<2", -value << 2);
+        }
         is(b, "0?1:0?2:3", 3);
         is(b, "0?1:1?2:3", 2);
         is(b, "1?0?1:2:3", 2);
