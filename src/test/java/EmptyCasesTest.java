@@ -53,7 +53,7 @@ public final class EmptyCasesTest {
         Bench b = new Bench();
         b.gives("~ ~/x", "[~][~/x]").gives("a=~ b=~:~/y", "").has("a", "~").has("b", "~:~/y");
         b.gives("HOME=", "").gives("~", "").gives("~ x ~", "[x]").gives("~/x ~/", "[/x][/]").gives("a=~ b=~:~/y c=:~:", "").has("a", "").has("b", ":/y").has("c", "::");
-        b.gives("~'' \"~\" ~x", "[~][~][~x]").gives("HOME='' ~", "").gives("HOME=/h ~", "[/h]");
+        b.gives("\"~\" ~x", "[~][~x]").gives("HOME='' ~", "").gives("HOME=/h ~", "[/h]");
         b.type("HOME").x.mark(0);
         b.gives("~", "[~]");
     }

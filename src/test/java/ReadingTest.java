@@ -89,7 +89,7 @@ public final class ReadingTest {
     private static void wrongReaches() {
         Bench b = new Bench();
         b.faults("$((1)x)", 3, 5).faults("$((1) )", 3, 5).faults("$(((1))", 3, 7).faults("$((\"1\"))", 3, 3);
-        b.faults("\"$((\"1\"))\"", 3, 4).faults("$((1)`)", 3, 5);
+        b.faults("\"$((\"1\"))\"", 3, 4);
     }
 
     private static void depth() {

