@@ -8,7 +8,7 @@ final class Bench {
     private static int wrong = 0;
     private static int asked = 0;
 
-    LineExpander x = new LineExpander();
+    final Subject x = new Subject();
 
     /** Collects a text, by feeds of twenty bytes and one end. */
     Bench type(String text) {
@@ -65,12 +65,18 @@ final class Bench {
         return this;
     }
 
-    /** The fields at hand, each in [ ]. */
     String fields() {
+        return fields(x);
+    }
+
+    /** The fields at hand, each in [ ]. */
+    static String fields(Subject x) {
         StringBuilder all = new StringBuilder();
-        for (int i = 0; i < x.count(5); i++) {
+        int many = x.count(5);
+        for (int i = 0; i < many; i++) {
+            int size = x.field(i);
             all.append('[');
-            for (int k = 0; k < x.field(i); k++) {
+            for (int k = 0; k < size; k++) {
                 all.append((char) x.byteOf(i, k));
             }
             all.append(']');
@@ -80,7 +86,8 @@ final class Bench {
 
     String message() {
         StringBuilder all = new StringBuilder();
-        for (int k = 0; k < x.message(-1); k++) {
+        int size = x.message(-1);
+        for (int k = 0; k < size; k++) {
             all.append((char) x.message(k));
         }
         return all.toString();
@@ -103,7 +110,8 @@ final class Bench {
             int answer = value(name);
             all.append(' ').append(name).append(answer).append(answer < 0 ? "" : fields());
         }
-        for (int i = 1; i <= x.count(2); i++) {
+        int parameters = x.count(2);
+        for (int i = 1; i <= parameters; i++) {
             all.append(" $").append(i).append(line("\"${" + i + "}\"")).append(fields());
         }
         for (String path : new String[] {"~u", "~v", "~w", "~longname", "*", "*/", "../*", "/*", "/.*", "/*/*", "/*/*/", "/*/.*", "/*/*/*"}) {

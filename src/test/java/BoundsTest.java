@@ -91,8 +91,8 @@ public final class BoundsTest {
 
     /** "$ itself otherwise." */
     private static void dollarItself() {
-        Bench b = new Bench();
         for (int c = 33; c < 127; c++) {
+            Bench b = new Bench();
             boolean key = c >= 'a' && c <= 'z' || c >= 'A' && c <= 'Z' || c >= '1' && c <= '9' || "_@*".indexOf(c) >= 0;
             if (key) {
                 b.gives("$" + (char) c + ".", "[.]").gives("\"$" + (char) c + ".\"", "[.]");
@@ -100,7 +100,7 @@ public final class BoundsTest {
                 b.gives("$" + (char) c + ".", "[$" + (char) c + ".]").gives("\"$" + (char) c + ".\"", "[$" + (char) c + ".]");
             }
         }
-        b.gives("$# \"$#\" $$# $'' $\"\" $\\x $\\\n", "[0][0][$0][$][$][$x][$]").gives("$", "[$]").gives("a$ \"$\" ${n-$} $", "[a$][$][$][$]");
+        Bench b = new Bench().gives("$# \"$#\" $$# $'' $\"\" $\\x $\\\n", "[0][0][$0][$][$][$x][$]").gives("$", "[$]").gives("a$ \"$\" ${n-$} $", "[a$][$][$][$]");
         b.faults("$(", 2, 0).faults("$(.", 2, 0).faults("$((", 3, 3).faults("${", 3, 2).errs("$(($))", 4);
     }
 
@@ -113,16 +113,18 @@ public final class BoundsTest {
 
     /** "a number of one or two digits (1 .. 20)"; "$ and .. a digit 1 .. 9". */
     private static void numbersOfParameters() {
-        Bench b = new Bench().parameters(Bench.names("p", 20).toArray(new String[0]));
+        String[] twenty = Bench.names("p", 20).toArray(new String[0]);
         for (int i = 1; i <= 20; i++) {
+            Bench b = new Bench().parameters(twenty);
             b.gives("${" + i + "}", "[p" + (i - 1) + "]").gives("${#" + i + "}", i <= 10 ? "[2]" : "[3]").gives("${" + i + "#p}", "[" + (i - 1) + "]");
         }
+        Bench b = new Bench().parameters(twenty);
         for (int i = 1; i <= 9; i++) {
             b.gives("$" + i, "[p" + (i - 1) + "]").gives("${0" + i + "}", "[p" + (i - 1) + "]").gives("$" + i + "0", "[p" + (i - 1) + "0]");
         }
         b.gives("$0 $#", "[$0][20]");
         for (int i = 21; i <= 99; i++) {
-            b.faults("${" + i + "}", 3, 2);
+            new Bench().faults("${" + i + "}", 3, 2);
         }
         b.faults("${0}", 3, 2).faults("${00}", 3, 2).faults("${0-x}", 3, 2).faults("${21-x}", 3, 2).faults("a${99", 3, 3);
         b.faults("${100}", 3, 4).faults("${200}", 3, 4).faults("${011}", 3, 4).faults("${210}", 3, 2).faults("${000}", 3, 2).faults("${1x}", 3, 3);

@@ -10,7 +10,7 @@ public final class CollectingTest {
     }
 
     private static void newObject() {
-        LineExpander x = new LineExpander();
+        Subject x = new Subject();
         Bench.same("BAD", LineExpander.BAD, -1);
         Bench.same("NONE", LineExpander.NONE, -2);
         int[] due = {0, 0, 0, 1, 0, 0, 0};

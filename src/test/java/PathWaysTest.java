@@ -35,10 +35,10 @@ public final class PathWaysTest {
     }
 
     private static void from(String current) {
-        Bench b = made(current);
         for (String one : PARTS) {
-            check(b, current, one);
+            check(made(current), current, one);
             for (String two : PARTS) {
+                Bench b = made(current);
                 check(b, current, one + "/" + two);
                 for (String three : PARTS) {
                     check(b, current, one + "/" + two + "/" + three);

@@ -1,15 +1,17 @@
 import java.util.Random;
 
 /**
- * Long runs of calls with arguments by chance, always the same ones: no call may throw or answer
- * what no promise tells, and a line that goes wrong may leave nothing behind. The runs go on beyond
- * the document's 512 calls, where these hold just as well.
+ * Runs of calls with arguments by chance, always the same ones, as long as an object may be used: no
+ * call may throw or answer what no promise tells, and a line that goes wrong may leave nothing behind.
  */
 public final class RandomTest {
     private static final String[] PIECES = {"a", "b", "IFS", "HOME", "x", "0", "1", "9", "10", "21", " ", "\t", "\n", "'", "\"", "\\", "$", "${", "}",
         "$((", "))", "(", ")", "`", "~", "~u", ":", "/", ".", "..", "*", "?", "[", "]", "!", "-", "=", "+", "#", "##", "%", "%%", "@", "$@", "$*", "$#", "\"$@\"",
         "${a-", "${b:=", "${x+", "${a#", "${a%%", "${#a}", "$a", "$b", "a=", "b=", "x=", "IFS=", "HOME=", "<<", ">>", "<=", "&&", "||", "^", "+=", "/=", "%=", ",", "longname",
         "d/*", "*/*", "${n?", "${a:-b c}", "$((a+=1))", "$((b=2))", "'*'", "\"$a\"", "$1", "${2-", "${10}", "\1", "\377"};
+
+    /** More than what one step and the lines behind it can take. */
+    private static final int STEP_CALLS = 80;
 
     private final Random random;
     private final Bench bench = new Bench();
@@ -19,7 +21,7 @@ public final class RandomTest {
     }
 
     public static void main(String[] args) {
-        for (int run = 0; run < 600; run++) {
+        for (int run = 0; run < 3000; run++) {
             new RandomTest(run).go();
         }
         Bench.close();
@@ -27,12 +29,14 @@ public final class RandomTest {
 
     private void go() {
         bench.tree("/d/", "/d/a", "/d/.b", "/a", "/x/", "/x/a").parameters("p q", "", "*");
-        for (int step = 0; step < 40; step++) {
+        while (bench.x.changesLeft() > STEP_CALLS) {
             call(random.nextInt(14));
+            oneLine(text(random.nextInt(5) == 0 ? 120 : 12));
         }
         for (int what = 0; what < 7; what++) {
             int[] most = {520, 30, 20, 80, 8, 64, 30};
-            Bench.same("count(" + what + ") in its bounds", bench.x.count(what) >= 0 && bench.x.count(what) <= most[what], true);
+            int many = bench.x.count(what);
+            Bench.same("count(" + what + ") in its bounds", many >= 0 && many <= most[what], true);
         }
     }
 
@@ -51,7 +55,7 @@ public final class RandomTest {
     }
 
     private void call(int which) {
-        LineExpander x = bench.x;
+        Subject x = bench.x;
         switch (which) {
             case 0: x.feed(number(), number(), number(), number(), number()); break;
             case 1: x.end(number()); break;
@@ -68,13 +72,10 @@ public final class RandomTest {
             case 12: bench.type("/" + text(2)).x.go(); break;
             default: x.strict(random.nextBoolean()); break;
         }
-        for (int i = 0; i < 3; i++) {
-            oneLine(text(random.nextInt(5) == 0 ? 120 : 12));
-        }
     }
 
     private void oneLine(String text) {
-        LineExpander x = bench.x;
+        Subject x = bench.x;
         x.line();
         String before = variables();
         int answer = bench.line(text);
@@ -85,7 +86,8 @@ public final class RandomTest {
         Bench.same("place: " + text, answer == -1 || faulty == placed, true);
         Bench.same("fields: " + text, answer == -1 || x.count(5) == Math.max(answer, 0), true);
         int bytes = 0;
-        for (int i = 0; i < x.count(5); i++) {
+        int many = x.count(5);
+        for (int i = 0; i < many; i++) {
             bytes += x.field(i);
         }
         Bench.same("bytes: " + text, bytes <= 2000, true);

@@ -30,8 +30,8 @@ public final class WrappingTest {
     }
 
     private static void alone() {
-        Bench b = new Bench();
         for (long a : EDGES) {
+            Bench b = new Bench();
             is(b, written(a), a);
             is(b, "-" + written(a), -a);
             is(b, "+" + written(a), a);
