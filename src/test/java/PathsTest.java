@@ -8,6 +8,7 @@ public final class PathsTest {
         dots();
         currentOne();
         waysToNowhere();
+        oneWayAmongMany();
         Bench.close();
     }
 
@@ -73,6 +74,20 @@ public final class PathsTest {
         b.gives(Bench.times("*/../", 98) + "x*", "[" + Bench.times("*/../", 98) + "x*]");
         b.errs(Bench.times("*/../", 98) + "d*", 5).errs("*", 5).errs("*/../d7", 5).gives("d1?", "[d10][d11][d12][d13][d14][d15][d16][d17][d18][d19]");
         b.gives(Bench.times("d1/../", 45) + "d?7", sevens("[" + Bench.times("d1/../", 45) + "d", 7)).errs(Bench.times("d1/../", 81) + "d?7", 5);
+    }
+
+    /** Of far more ways than can be gone all but the last one lead nowhere: it must be found all the same. */
+    private static void oneWayAmongMany() {
+        Bench b = new Bench();
+        for (String directory : "a b c d e f g".split(" ")) {
+            b.tree("/" + directory + "/");
+            for (String name : Bench.names("n", 8)) {
+                b.tree("/" + directory + "/" + name + "/");
+            }
+        }
+        b.tree("/z/", "/z/n/", "/z/f");
+        b.gives("*/" + Bench.times("*/../", 12) + "f", "[z/" + Bench.times("n/../", 12) + "f]");
+        b.gives("*/" + Bench.times("*/../", 12) + "[!n]", "[z/" + Bench.times("n/../", 12) + "f]");
     }
 
     private static String sevens(String before, int many) {
